@@ -753,7 +753,10 @@ public final class CutListDesk {
         }
 
         private void move(int from, int to) {
-            fill(to, reels[from], firsts[from], lasts[from], bits[from]);
+            reels[to] = reels[from];
+            firsts[to] = firsts[from];
+            lasts[to] = lasts[from];
+            bits[to] = bits[from];
         }
 
         private void fill(int at, int reel, int first, int last, int bit) {

@@ -152,6 +152,12 @@ public final class ListsTest {
     due.is("until the list is full", x.read(1, 3), 6);
     due.is("full", x.read(1, 3), 0);
     due.is("eight", x.count(1), 8);
+    CutListDesk y = new CutListDesk();
+    fill(y, 0, 0, 1, 2, 3, 4, 5);
+    due.is("five items are one whole edit", y.read(0, 0), 1);
+    fill(y, 0, 0, 1, 2, 3, 4, 5, 5, 4, 3, 2, 1);
+    due.is("ten items are two", y.read(1, 0), 2);
+    due.is("the second of them", y.info(1, 1, 0), 5);
     x.sheet(0, 2, 0);
     due.is("an empty sheet", x.read(0, 0), 0);
     due.is("list 0 has its two", x.count(0), 2);

@@ -50,7 +50,10 @@ public final class ModelTest {
     int reels = run % 4 == 0 ? 5 : 1;
     for (int c = 0; c < CALLS; c++) {
       int kind = upTo(39);
-      if (kind < 8) change(x, run, reels);
+      if (kind == 0 && run % 5 == 0 && c < CALLS - 40) {
+        readCall(x, run);
+        c += 30;
+      } else if (kind < 8) change(x, run, reels);
       else if (kind < 14) sheetCall(x, run);
       else if (kind < 39) ask(x, run, reels);
       else due.is("digest in run " + run, x.digest(), digest());
@@ -93,12 +96,24 @@ public final class ModelTest {
     }
   }
 
+  /** A SHEET of edits, whole but for the last perhaps, and read at once. */
+  private void readCall(CutListDesk x, int run) {
+    int list = upTo(1), s = upTo(3), n = 5 * (1 + upTo(4)) + (upTo(1) == 0 ? 0 : upTo(4));
+    due.is("sheet", x.sheet(s, 2, n), sheet(s, 2, n));
+    for (int i = 0; i < n; i++) {
+      int v = i % 5 == 0 ? from(0, 5) : i % 5 == 1 ? frame(run) : i % 5 == 2 ? many() : i % 5 == 3 ? from(0, 6) : from(1, 6);
+      due.is("put", x.put(s, 2, i, v), put(s, 2, i, v));
+    }
+    due.is("read", x.read(list, s), read(list, s));
+    due.is("count", x.count(list), count(list));
+  }
+
   private void sheetCall(CutListDesk x, int run) {
     int s = from(0, 3), t = from(0, 3), form = from(0, 2), i = from(0, 20), j = from(0, 20), n = from(0, 20);
     if (upTo(2) != 0 && s >= 0 && s < 4 && sheets[s] != null) form = formOf(s);
     switch (upTo(8)) {
       case 0: {
-        int size = upTo(3) == 0 ? from(0, 60) : 15 + upTo(10);
+        int size = upTo(3) == 0 ? from(0, 60) : upTo(1) == 0 ? 5 + 5 * upTo(3) : 15 + upTo(10);
         due.is("sheet", x.sheet(s, form, size), sheet(s, form, size));
         break;
       }
