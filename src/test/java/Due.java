@@ -2,12 +2,22 @@
 final class Due {
   private int wrong = 0;
   private int calls = 0;
+  private String about = "";
+
+  /** What the answers from here on are about; told with each that is wrong. */
+  void begin(String what) {
+    about = what + ": ";
+  }
+
+  int calls() {
+    return calls;
+  }
 
   void is(String call, long got, long want) {
     calls++;
     if (got != want) {
       wrong++;
-      System.out.println(call + " answered " + got + ", due is " + want);
+      System.out.println(about + call + " answered " + got + ", due is " + want);
     }
   }
 

@@ -1,0 +1,11 @@
+import java.lang.annotation.ElementType;
+import java.lang.annotation.Retention;
+import java.lang.annotation.RetentionPolicy;
+import java.lang.annotation.Target;
+
+/** The sentence of ../shared/DOC.md, or the part of it, that a test would find broken; '..' stands for what is left out. */
+@Retention(RetentionPolicy.RUNTIME)
+@Target(ElementType.METHOD)
+@interface Says {
+  String value();
+}
