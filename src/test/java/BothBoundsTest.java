@@ -66,6 +66,20 @@ public final class BothBoundsTest {
     due.is("none is gone", x.gone(), 0);
   }
 
+  @Says("1 KEPT: it has one as LONG, that begins at the same frame of the cut")
+  static void compareKeptAtAnotherPlace() {
+    CutListDesk x = new CutListDesk();
+    x.edit(0, 0, 7, 20, 1, 1);
+    x.edit(0, 1, 50, 10, 1, 1);
+    for (int e = 0; e < 7; e++) x.edit(1, 2, e, e < 6 ? 1 : 14, 1, 1);
+    x.edit(1, 1, 50, 10, 1, 1);
+    isKind(x, 7, KEPT, 1, 0);
+    due.is("kept", x.count(5), 1);
+    x.swap();
+    isKind(x, 1, KEPT, 7, 0);
+    due.is("kept the other way", x.count(5), 1);
+  }
+
   @Says("2 MOVED: one as LONG, that does not")
   static void compareMovedByOne() {
     CutListDesk x = new CutListDesk();

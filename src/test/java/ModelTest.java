@@ -30,10 +30,15 @@ public final class ModelTest {
     return (int) ((seed >>> 33) % (n + 1));
   }
 
-  /** Mostly a number from low to high, now and then one beside them. */
+  /** Mostly a number from low to high, now and then one beside them, near or as far as can be. */
   private static int from(int low, int high) {
-    int odd = upTo(59);
-    return odd == 0 ? low - 1 : odd == 1 ? high + 1 : low + upTo(high - low);
+    switch (upTo(119)) {
+      case 0: case 1: return low - 1;
+      case 2: case 3: return high + 1;
+      case 4: return LEAST;
+      case 5: return Integer.MAX_VALUE;
+      default: return low + upTo(high - low);
+    }
   }
 
   private static int frame(int run) {

@@ -159,6 +159,18 @@ public final class PullBoundsTest {
   }
 
   @Says("PULLS are told by REELS, of one REEL by their first frames.")
+  static void pullBehindJoinedOnes() {
+    CutListDesk x = desk(0, 0, 100, 10, 110, 10, 130, 10, 140, 10, 160, 1);
+    isSpan("joined", x, 0, 100, 119, 3);
+    isSpan("joined behind it", x, 1, 130, 149, 12);
+    isSpan("alone behind both", x, 2, 160, 160, 16);
+    due.is("no more", x.pull(1, 3, 0), NONE);
+    x.edit(1, 4, 5, 1, 1, 1);
+    due.is("the next REEL", x.pull(1, 3, 0), 4);
+    isSpan("of it", x, 3, 5, 5, 32);
+  }
+
+  @Says("PULLS are told by REELS, of one REEL by their first frames.")
   static void pullInOrder() {
     CutListDesk x = new CutListDesk();
     int[][] edits = {{5, 0}, {0, 199999}, {0, 0}, {3, 700}, {3, 500}, {3, 600}, {5, 199999}, {2, 9}};

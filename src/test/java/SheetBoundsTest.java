@@ -501,6 +501,22 @@ public final class SheetBoundsTest {
     due.is("1 again", x.count(8), 1);
   }
 
+  @Says("8 the number of the latest FINDING (0 before any)")
+  static void countFindingStays() {
+    CutListDesk x = Desks.SOME.desk(SIZE);
+    Twins.Call[] taken = {d -> d.edit(0, 0, 0, 1, 1, 1), d -> d.back(0), d -> d.trim(0, 0, 0, 5), d -> d.set(1, 5), d -> d.reel(0, 5), d -> d.swap(),
+        d -> d.read(0, 0), d -> d.info(0, 0, 0), d -> d.shows(0, 0, 0), d -> d.seen(0, 0, 0, 0), d -> d.still(0, 0, 0), d -> d.told(0, 0),
+        d -> d.number(0, 0, 0, 0), d -> d.pulls(0), d -> d.pull(0, 0, 0), d -> d.waste(0), d -> d.total(0, 0), d -> d.compare(0, 0),
+        d -> d.gone(), d -> d.anew(-1), d -> d.saving(0), d -> d.put(0, 0, 0, 1), d -> d.get(0, 0, 0), d -> d.copy(0, 0, 0, 1, 1),
+        d -> d.write(0, 0), d -> d.count(0), d -> d.sheet(0, 0, 5), d -> d.lose(0)};
+    for (int i = 0; i < taken.length; i++) {
+      due.holds("call " + i + " is not refused", taken[i].on(x) >= 0);
+      due.is("the latest after call " + i, x.count(8), SIZE);
+    }
+    due.holds("a digest", x.digest() != 0);
+    due.is("the latest after all", x.count(8), SIZE);
+  }
+
   // ---- 30 digest
 
   /** The answers of which the digest is made, by the public face, in the order of the document. */
