@@ -10,8 +10,13 @@ import java.util.Comparator;
 final class Sentences {
   private static final Path DOCUMENT = Path.of("../shared/DOC.md");
 
+  /** The document in one line, or null where it is not. */
+  static String document() throws IOException {
+    return Files.exists(DOCUMENT) ? plain(Files.readString(DOCUMENT)) : null;
+  }
+
   static void run(Class<?> tests, Due due) throws IOException, IllegalAccessException {
-    String document = Files.exists(DOCUMENT) ? plain(Files.readString(DOCUMENT)) : null;
+    String document = document();
     Method[] all = tests.getDeclaredMethods();
     Arrays.sort(all, Comparator.comparing(Method::getName));
     for (Method test : all) {
@@ -35,10 +40,10 @@ final class Sentences {
   }
 
   private static void standsIn(String document, String sentence, Due due) {
-    for (String part : sentence.split("\\.\\. ")) due.holds("the document says '" + part + "'", document.contains(plain(part)));
+    due.holds("the document says '" + sentence + "'", document.contains(plain(sentence)));
   }
 
-  private static String plain(String text) {
+  static String plain(String text) {
     return text.replaceAll("\\s+", " ").trim();
   }
 }
